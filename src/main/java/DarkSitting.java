@@ -669,6 +669,16 @@ public final class DarkSitting {
         int beginners;
         int ropeSlack;
 
+        /** Where no RULE or WAY is yet stands one without LINES, so that none is ever null. */
+        Book() {
+            for (int rule = 0; rule < MOST_RULES; rule++) {
+                rules[rule] = new Rule(new int[0]);
+            }
+            for (int way = 0; way < MOST_WAYS; way++) {
+                ways[way] = new Way(0, 1, 0, new int[0]);
+            }
+        }
+
         int addRule(Rule rule) {
             rules[ruleCount] = rule;
             ruleCount++;
@@ -1427,7 +1437,10 @@ public final class DarkSitting {
 
         int limbsAt(int second) {
             int limbs = 0;
-            for (int set = 0; set < 1 << LIMBS && second <= sitting.last; set++) {
+            if (second > sitting.last) {
+                return limbs;
+            }
+            for (int set = 0; set < 1 << LIMBS; set++) {
                 limbs |= hasBit(sets[second], set) ? set : 0;
             }
             return limbs;
@@ -1455,6 +1468,7 @@ public final class DarkSitting {
 
         private final Book book;
         private final int[] seconds = new int[STATES];
+        private final int[] slacks = new int[STATES];
 
         Ropes(Book ofBook) {
             book = ofBook;
@@ -1466,6 +1480,7 @@ public final class DarkSitting {
         }
 
         int fewestOutAndIn(int wanted) {
+            reckonSlacks();
             Arrays.fill(seconds, FAR);
             seconds[0] = 0;
             shorten();
@@ -1492,10 +1507,20 @@ public final class DarkSitting {
         }
 
         private void reckonOut(int wanted) {
+            reckonSlacks();
             for (int open = 0; open < STATES; open++) {
                 seconds[open] = hasAll(open, wanted) ? 0 : FAR;
             }
             shorten();
+        }
+
+        private void reckonSlacks() {
+            slacks[0] = book.ropeSlack;
+            for (int open = 1; open < STATES; open++) {
+                int withoutOne = open & open - 1;
+                int gives = book.knots.get(Integer.numberOfTrailingZeros(open), Book.KNOT_GIVES);
+                slacks[open] = slacks[withoutOne] + gives;
+            }
         }
 
         private boolean hasAll(int open, int wanted) {
@@ -1529,11 +1554,7 @@ public final class DarkSitting {
         }
 
         private boolean givesWay(int knot, int openOthers) {
-            int slack = book.ropeSlack;
-            for (int other = 0; other < book.knots.size; other++) {
-                slack += hasBit(openOthers, other) ? book.knots.get(other, Book.KNOT_GIVES) : 0;
-            }
-            return slack >= book.knots.get(knot, Book.KNOT_NEED);
+            return slacks[openOthers] >= book.knots.get(knot, Book.KNOT_NEED);
         }
     }
 }
