@@ -143,6 +143,13 @@ public final class PromisesTest {
         is("3: end", true, x.end(6));
         is("2: last 7", 1, x.rule());
         is("2: last 7", 7, x.look(1, 0));
+        write(x, "last 123;hold 1 by 1");
+        is("3: what was cut is gone", true, x.end(6));
+        is("3: last 1", 2, x.rule());
+        is("3: last 1", 1, x.look(2, 0));
+        write(x, "need darker;take 5");
+        is("3: what was cut is gone", true, x.end(9));
+        is("3: need dark", 0, x.way());
     }
 
     private static void promise4() {
@@ -242,7 +249,8 @@ public final class PromisesTest {
         String[] right = {"need dark", "need not dark", "need(dark)", "need ( ( dark ) ) or helped", "need 1<2",
             "need 1 < 2 and dark or not helped", "need second+limbs+knows0+slack 3>999", "need not not 1>2",
             "need ((((((dark))))))", "need (not (not (not dark)))", "need not(not(not 1<2))and not not dark",
-            "need loose 0 and held 1 and tied 2 and tired 3", "need 000<000", "free0;take060;reach009"};
+            "need loose 0 and held 1 and tied 2 and tired 3", "need 000<000", "free0;take060;reach009",
+            "reach 1;take 1;free 3", "need 1" + times("+1", 192, "") + "<999"};
         for (String text : right) {
             rightWay(text);
         }
@@ -257,6 +265,8 @@ public final class PromisesTest {
         wrongWay("needdark", 0);
         wrongWay("need notdark", 5);
         wrongWay("need light", 5);
+        wrongWay("need darkz", 5);
+        wrongWay("need zdark", 5);
         wrongWay("need dark dark", 10);
         wrongWay("need dark < 1", 10);
         wrongWay("need and dark", 5);
@@ -283,6 +293,9 @@ public final class PromisesTest {
         wrongWay("need slack", 10);
         wrongWay("need loose", 10);
         wrongWay("need loose 7", 11);
+        wrongWay("need loose 4", 11);
+        wrongWay("need held 4", 10);
+        wrongWay("need slack 4 < 1", 11);
         wrongWay("need second", 11);
         wrongWay("need second and dark", 12);
         wrongWay("need second = 1", 12);
@@ -343,6 +356,9 @@ public final class PromisesTest {
         rule(x, "lit 0 to 300");
         is("9: last without", 120, x.look(1, 0));
         is("9: all lit", 120, x.look(1, 1));
+        is("9: none held", 0, x.look(1, 3));
+        is("9: none tied", 0, x.look(1, 4));
+        is("9: still held", 10, x.look(0, 3));
     }
 
     private static void promise10() {
@@ -374,7 +390,12 @@ public final class PromisesTest {
         need(true, rule, "knows 1 > 8", 0, 0, false);
         need(true, rule, "knows 2 + knows 3 < 1", 0, 0, false);
         need(true, rule, "slack 0 > 98 and slack 2 < 8 and slack 2 > 6 and slack 3 < 1", 0, 0, false);
+        need(true, rule, "slack 0 < 100 and slack 1 + 1 > 99", 0, 0, false);
         need(false, rule, "5 < 5 or 5 > 5", 0, 0, false);
+        need(true, rule, "limbs > 1 and 2 > 1 and not 1 > 2", 0, 7, false);
+        need(false, rule, "limbs > 3 or 1 > 2 or 2 < 1", 0, 7, false);
+        need(false, rule, "(limbs < 1 or limbs > 2) and not (limbs + 1 < 2 or limbs > 3)", 0, 0, false);
+        need(true, rule, "(limbs < 1 or limbs > 2) and not (limbs + 1 < 2 or limbs > 3)", 0, 7, false);
         need(true, rule, "second + second > 9", 5, 0, false);
         need(false, rule, "second + second > 10", 5, 0, false);
         need(true, rule, "dark or dark and 1 > 2", 0, 0, false);
@@ -516,6 +537,10 @@ public final class PromisesTest {
         x.torn();
         x.note(4, 4);
         is("14: none reaches", -1, x.fewest(0, true));
+        way(x, "reach 5");
+        is("14: the one that reaches", 16, x.fewest(0, true));
+        x.note(0, 6);
+        is("14: a hand, and reach", 17, x.fewest(0, false));
         DarkSitting y = new DarkSitting();
         rule(y, "last 5");
         is("14: no ways, no notes", 0, y.fewest(0, false));
@@ -548,6 +573,17 @@ public final class PromisesTest {
         is("15: one ahead of the end", 3, y.earliest(0, 1, false, 0));
         is("15: not at the end", -1, y.earliest(0, 2, false, 0));
         is("15: two at once", 2, y.earliest(0, 4, false, 1));
+        DarkSitting v = table("last 3", "free 0;reach 1", "free 2");
+        is("15: a way takes a second without take", 1, v.earliest(0, 1, false, 0));
+        is("15: one behind the other", 2, v.earliest(0, 3, false, 0) + v.earliest(0, 2, false, 1));
+        DarkSitting u = new DarkSitting();
+        rule(u, "");
+        way(u, "reach 1;free 0");
+        way(u, "");
+        u.thing(0, 0, 1);
+        is("15: reach of the first way", 0, u.earliest(0, 1, false, 0));
+        is("15: a way without reach", -1, u.earliest(0, 2, false, 0));
+        is("15: no ways, no reach", -1, u.earliest(0, 0, false, 0));
         DarkSitting z = table("last 20;lit 3 to 5", "free 0;take 3;need dark");
         is("15: needs at each second", 8, z.earliest(0, 1, false, 0));
         DarkSitting w = table("last 20;hold 0 by 1", "free 0;take 3;need tired 0", "free 1;take 2;need not loose 0");
@@ -702,6 +738,8 @@ public final class PromisesTest {
         throwing("22: none", INDEX, () -> x.odds(-1));
         throwing("24: no night", INDEX, () -> x.factor(0, 2));
         throwing("24: no night", INDEX, () -> x.factor(0, -1));
+        throwing("24: no story", INDEX, () -> x.factor(3, 0));
+        throwing("24: no story", INDEX, () -> x.factor(-1, 0));
         throwing("23: index first", INDEX, () -> x.oddsBy(3, 9));
         x.story(2, 0b11000, 4);
         is("24: its way is not there yet", 9 * 9 * 9 * 9 * 9 * 7L, x.factor(3, 1));
@@ -831,6 +869,10 @@ public final class PromisesTest {
         z.told(3, 0, 5);
         z.told(0, 3, 5);
         is("30: told back", 8, z.whence(5, true));
+        z.told(3, 0, 0);
+        is("30: on the first day", 8, z.whence(0, false));
+        is("30: on the first day", 8, z.whence(0, true));
+        is("29: on the first day", 9, z.knows(0));
     }
 
     private static void promise31And32() {
@@ -886,6 +928,20 @@ public final class PromisesTest {
         is("33: out by the quick one", 13, y.out(4, false));
         is("34: the quick one", 0, y.first(4));
         is("33: out and in by the other one", 11 + 3 + 3 + 1, y.out(4, true));
+        DarkSitting w = new DarkSitting();
+        w.rope(1);
+        w.knot(9, 1, 3, 2);
+        w.knot(8, 2, 1, 3);
+        w.knot(7, 3, 6, 0);
+        is("34: without out before it", 1, w.first(4));
+        is("33: all slack together", 24, w.out(4, false));
+        is("33: in again", 30, w.out(4, true));
+        is("33: in again, once more", 30, w.out(4, true));
+        w.rope(0);
+        is("33: one too little", -1, w.out(4, false));
+        w.rope(4);
+        is("33: by one", 15, w.out(4, false));
+        is("34: by one", 0, w.first(4) - 1);
         DarkSitting z = new DarkSitting();
         z.knot(5, 5, 3, 9);
         z.knot(4, 2, 0, 3);
@@ -928,6 +984,7 @@ public final class PromisesTest {
         is("36: the nearest", 8, x.cold(0b10001, 10, 3));
         is("36: not below 0", 0, x.cold(1, 3, 2));
         is("36: one", 1, x.cold(1, 3, 1));
+        is("36: no degrees", 0, x.cold(1, 0, 0));
     }
 
     private static void promise37And38() {
@@ -977,6 +1034,25 @@ public final class PromisesTest {
         x.note(0, 1);
         is("37: kept anew", true, x.back());
         is("37: kept anew", 0, x.count(4));
+        DarkSitting w = table("last 10", "free 0;take 3");
+        w.note(0, 5);
+        w.note(5, 1);
+        w.image();
+        w.torn();
+        w.note(1, 5);
+        w.note(1, 5);
+        is("38: before", false, w.can(0, 1, false));
+        w.back();
+        is("38: the notes that there were", true, w.can(0, 1, false));
+        w.torn();
+        is("38: none", 0, w.count(4));
+        w.back();
+        is("38: there again", false, w.can(0, 0, false));
+        DarkSitting v = new DarkSitting();
+        v.image();
+        v.thing(0, 0, 0);
+        v.back();
+        is("38: no things", 0, v.count(3));
         // What was found out by a rule and its ways must not outlive a way back to before them.
         DarkSitting y = new DarkSitting();
         y.thing(1, 0, 0);
