@@ -145,6 +145,40 @@ public final class StoryBoundariesTest {
         }
     }
 
+    /** "it has an EARLIEST by RULE and WAYS": by all four RULES and all sets of six WAYS, helped or not. */
+    private static void promise24Earliest() {
+        for (int ways = 0; ways < 64; ways += 4) {
+            DarkSitting x = new DarkSitting();
+            for (String rule : new String[] {"last 2", "last 4;hold 0 by 1", "last 6;tie 1 5", "last 9;lit 0 to 9"}) {
+                Trial.rule(x, rule);
+            }
+            for (String way : new String[] {"free 0;take 3", "free 0;need tied 1", "free 1;need helped", "reach 3",
+                "free 2;take 8", "free 3;need held 0"}) {
+                Trial.way(x, way);
+            }
+            x.thing(1, 0, 0);
+            x.thing(0, 1, 0);
+            x.thing(2, 0, 0);
+            x.thing(0, 1, 3);
+            for (int story = 0; story < 5; story++) {
+                x.story(1, ways + story, 1);
+            }
+            for (int night = 0; night < 8; night++) {
+                x.night(night / 2, night % 2 == 0 ? 0 : 2, 15, 0, 0);
+            }
+            for (int story = 0; story < 5; story++) {
+                for (int night = 0; night < 8; night++) {
+                    long due = 1;
+                    for (int thing = 0; thing < 4; thing++) {
+                        due *= x.earliest(night / 2, ways + story, night % 2 == 1, thing) == Trial.NONE ? 1 : 7;
+                    }
+                    String what = "ways " + (ways + story) + " on night " + night;
+                    Trial.is("promise 24: " + what, due, x.factor(story, night));
+                }
+            }
+        }
+    }
+
     /** Bits of none count for nothing, as long as they are of none. */
     private static void promise20Bits() {
         DarkSitting x = new DarkSitting();
@@ -307,6 +341,7 @@ public final class StoryBoundariesTest {
         promise22Products();
         promise23();
         promise24Each();
+        promise24Earliest();
         promise24Greatest();
         promise24Helpers();
         noSuchRows();
