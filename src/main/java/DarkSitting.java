@@ -26,6 +26,8 @@ public final class DarkSitting {
     private static final int EMPTY_SET = 1;
     private static final int[] SETS_WITH_LIMB = {0xAAAA, 0xCCCC, 0xF0F0, 0xFF00};
     private static final int[] SETS_OF_SIZE = {0x0001, 0x0116, 0x1668, 0x6880, 0x8000};
+    private static final int[] SETS_WITH_HANDS = {0xFFFF, 0xEEEE, 0x8888};
+    private static final int[] SETS_WITH_FEET = {0xFFFF, 0xFFF0, 0xF000};
 
     private final byte[] tape = new byte[MOST_BYTES];
     private int tapeSize;
@@ -697,16 +699,11 @@ public final class DarkSitting {
 
         /** The sets of free LIMBS with which a THING can be done, if these WAYS are used. */
         int setsFor(int thing, int usedWays) {
-            int sets = 0;
-            if (greatestReach(usedWays) < things.get(thing, THING_REACH)) {
-                return sets;
+            int needed = things.get(thing, THING_REACH);
+            if (needed > 0 && greatestReach(usedWays) < needed) {
+                return 0;
             }
-            for (int limbs = 0; limbs < 1 << LIMBS; limbs++) {
-                boolean hasHands = Integer.bitCount(limbs & 3) >= things.get(thing, THING_HANDS);
-                boolean hasFeet = Integer.bitCount(limbs >> 2) >= things.get(thing, THING_FEET);
-                sets |= hasHands && hasFeet ? 1 << limbs : 0;
-            }
-            return sets;
+            return SETS_WITH_HANDS[things.get(thing, THING_HANDS)] & SETS_WITH_FEET[things.get(thing, THING_FEET)];
         }
 
         private int greatestReach(int usedWays) {
@@ -1194,6 +1191,8 @@ public final class DarkSitting {
         private final int[] holderTires = new int[LIMBS];
         private final int[] tieSlack = new int[LIMBS];
         private final int[] waiting = new int[MOST_WAITING];
+        // Ahead of this second setsThatMeet would answer as it did last, so that it need not be asked there.
+        int sameUntil;
 
         /** without: a LINE that does not count; NONE. */
         void settle(Rule rule, int without, Table persons) {
@@ -1246,19 +1245,24 @@ public final class DarkSitting {
         int setsThatMeet(Way way, int second, boolean helped) {
             int sum = 0;
             int perLimb = 0;
+            int perSecond = 0;
             int top = 0;
             waiting[0] = ALL_SETS;
+            sameUntil = SECONDS;
             for (int step : way.steps) {
                 int token = step / Reader.STEP;
                 int number = step % Reader.STEP;
                 if (token == Token.LESS || token == Token.MORE) {
                     top = Math.min(top + 1, MOST_WAITING - 1);
-                    waiting[top] = setsThatCompare(token, sum, perLimb);
+                    int sign = token == Token.LESS ? 1 : -1;
+                    waiting[top] = setsAboveZero(sign * sum, sign * perLimb, sign * perSecond, second);
                     sum = 0;
                     perLimb = 0;
+                    perSecond = 0;
                 } else if (token == Token.TURN) {
                     sum = -sum;
                     perLimb = -perLimb;
+                    perSecond = -perSecond;
                 } else if (token == Token.LIMB_COUNT) {
                     perLimb++;
                 } else if (token == Token.NOT) {
@@ -1275,6 +1279,7 @@ public final class DarkSitting {
                     waiting[top] = setsOfTag(token, number, second);
                 } else {
                     sum += partOf(token, number, second);
+                    perSecond += token == Token.SECOND ? 1 : 0;
                 }
             }
             return waiting[0];
@@ -1291,6 +1296,7 @@ public final class DarkSitting {
                     return SETS_WITH_LIMB[limb];
                 case Token.DARK:
                     holds = lit[second] == 0;
+                    sameUntil = litTurns(second);
                     break;
                 case Token.HELD:
                     holds = hasBit(held, limb);
@@ -1300,9 +1306,20 @@ public final class DarkSitting {
                     break;
                 default:
                     holds = hasBit(held, limb) && holderTires[limb] <= second;
+                    if (hasBit(held, limb) && !holds) {
+                        sameUntil = Math.min(sameUntil, holderTires[limb]);
+                    }
                     break;
             }
             return holds ? ALL_SETS : 0;
+        }
+
+        private int litTurns(int second) {
+            int then = second + 1;
+            while (then < sameUntil && lit[then] == lit[second]) {
+                then++;
+            }
+            return then;
         }
 
         private int partOf(int token, int number, int second) {
@@ -1318,15 +1335,26 @@ public final class DarkSitting {
             }
         }
 
-        /** sum, perLimb: the right side less the left one, without the free LIMBS and for each of them. */
-        private static int setsThatCompare(int token, int sum, int perLimb) {
+        /** Where a sum is above 0 that has so much more for each free LIMB; it grows by so much each second. */
+        private int setsAboveZero(int sum, int perLimb, int perSecond, int second) {
             int sets = 0;
             for (int size = 0; size <= LIMBS; size++) {
-                int difference = sum + perLimb * size;
-                boolean holds = token == Token.LESS ? difference > 0 : difference < 0;
-                sets |= holds ? SETS_OF_SIZE[size] : 0;
+                int sumOfSize = sum + perLimb * size;
+                sets |= sumOfSize > 0 ? SETS_OF_SIZE[size] : 0;
+                sameUntil = Math.min(sameUntil, second + secondsToTurn(sumOfSize, perSecond));
             }
             return sets;
+        }
+
+        /** How many seconds later a sum comes above 0, or is there no more. */
+        private static int secondsToTurn(int sum, int perSecond) {
+            if (sum > 0 && perSecond < 0) {
+                return (sum - perSecond - 1) / -perSecond;
+            }
+            if (sum <= 0 && perSecond > 0) {
+                return -sum / perSecond + 1;
+            }
+            return SECONDS;
         }
     }
 
@@ -1336,6 +1364,7 @@ public final class DarkSitting {
         final Sitting sitting = new Sitting();
         private final int[] startSets = new int[MOST_WAYS * SECONDS];
         private final int[] goingSets = new int[MOST_WAYS * SECONDS];
+        private final int[] throughBlock = new int[MOST_WAYS];
         private final int[] allowedSets = new int[SECONDS];
         private final int[] sets = new int[SECONDS];
         // By RULE, WAYS and helped; 0 where it is not known yet (no set at all is never true).
@@ -1355,13 +1384,15 @@ public final class DarkSitting {
             sitting.settle(book.rules[rule], without, book.persons);
             allowUnseen();
             for (int number = 0; number < book.wayCount; number++) {
-                if (hasBit(ways, number)) {
-                    Way way = book.ways[number];
-                    int changed = way.setsItChanges();
-                    for (int second = 0; second < sitting.last; second++) {
-                        int met = changed == 0 ? 0 : sitting.setsThatMeet(way, second, helped);
-                        startSets[number * SECONDS + second] = changed & met;
+                int changed = hasBit(ways, number) ? book.ways[number].setsItChanges() : 0;
+                int starts = 0;
+                int sameUntil = changed == 0 ? SECONDS : 0;
+                for (int second = 0; second < sitting.last; second++) {
+                    if (second >= sameUntil) {
+                        starts = changed & sitting.setsThatMeet(book.ways[number], second, helped);
+                        sameUntil = sitting.sameUntil;
                     }
+                    startSets[number * SECONDS + second] = starts;
                 }
             }
         }
@@ -1403,6 +1434,9 @@ public final class DarkSitting {
         /** Nothing, or some LIMBS that are free no more. */
         private static int withAllTheirParts(int ofSets) {
             int parts = ofSets;
+            if (parts == EMPTY_SET) {
+                return parts;
+            }
             for (int limb = 0; limb < LIMBS; limb++) {
                 parts |= (parts & SETS_WITH_LIMB[limb]) >> (1 << limb);
             }
@@ -1412,18 +1446,29 @@ public final class DarkSitting {
         /** What is free behind a second by a WAY of which that is the last one. */
         private int freedBehind(int number, int second) {
             Way way = book.ways[number];
-            int row = number * SECONDS;
-            goingSets[row + second] = sets[second] & startSets[row + second];
-            int begin = second - way.take + 1;
-            if (begin < 0) {
-                return 0;
-            }
             // Doing nothing is a COURSE, too: a set that was there at the begin and is allowed since is there now.
-            int through = goingSets[row + second];
-            for (int before = begin; before < second && through != 0; before++) {
-                through &= goingSets[row + before];
+            int through = goneThrough(number, second, Math.max(way.take, 1));
+            return through == 0 ? 0 : way.freed(through);
+        }
+
+        /**
+         * The sets with which a WAY could go at each of so many seconds up to this one. All seconds are cut into
+         * blocks of so many, so that those asked for are the end of one block and the begin of the next.
+         */
+        private int goneThrough(int number, int second, int take) {
+            int row = number * SECONDS;
+            int going = sets[second] & startSets[row + second];
+            int place = second % take;
+            throughBlock[number] = place == 0 ? going : throughBlock[number] & going;
+            goingSets[row + second] = going;
+            if (place < take - 1) {
+                return second < take ? 0 : throughBlock[number] & goingSets[row + second - take + 1];
             }
-            return way.freed(through);
+            // The block is whole: from now on each of its seconds tells what goes on from there to its end.
+            for (int before = second - 1; before > second - take; before--) {
+                goingSets[row + before] &= goingSets[row + before + 1];
+            }
+            return throughBlock[number];
         }
 
         int firstSecondOf(int wantedSets) {

@@ -164,7 +164,7 @@ public final class AgainstReferenceTest {
             case 1:
                 return "free" + blank() + limb();
             case 2:
-                return "take" + blank() + (chance(97) ? 1 + to(5) : to(70));
+                return "take" + blank() + (chance(85) ? 1 + to(5) : chance(85) ? 1 + to(24) : to(70));
             case 3:
                 return "reach" + blank() + (chance(95) ? 1 + to(8) : to(12));
             default:

@@ -229,6 +229,61 @@ public final class SittingBoundariesTest {
         Trial.is("promise 15: a way that frees nothing", Trial.NONE, y.earliest(0, 2, false, HAND));
     }
 
+    private static final String[] TURNING_NEEDS = {"dark", "not dark or second > 250", "second > 50 and second < 110",
+        "second + second < 101 or second + 3 > 200", "limbs + second > 120", "second + 1 > second", "second > second",
+        "100 > second + second + second or 700 < second + second + second", "tired 0", "not tired 1", "dark and tired 1",
+        "tired 3 or tired 2 or second > 297", "second + slack 2 > 100 and knows 0 + second < 160",
+        "not (second < 30 or second > 33) or second > 133 and second < 150", "5 + limbs < second and not dark or helped",
+        "second + 4 + slack 0 > 3 + second + second", "99 > second + second + second", "101 > second + second + second",
+        "second + second + second < 100 or 300 < second + second", "not 60 > second", "not 60 < second"};
+
+    private static DarkSitting turning(String... needs) {
+        DarkSitting x = new DarkSitting();
+        x.person(0, 0);
+        x.person(9, 55);
+        x.person(3, 210);
+        x.thing(1, 0, 0);
+        Trial.rule(x, "hold 0 by 1;hold 1 by 2;hold 3 by 5;tie 2 7;lit 0 to 2;lit 40 to 43;lit 43 to 44;lit 90 to 91;"
+                + "lit 299 to 300;last 300");
+        for (String need : needs) {
+            Trial.way(x, need);
+        }
+        return x;
+    }
+
+    private static int firstBehind(DarkSitting x, int second, int take) {
+        for (int begin = second + 1; begin + take < 300; begin++) {
+            boolean goes = x.needs(1, 0, begin + take, 0, false);
+            for (int k = begin; k < begin + take && goes; k++) {
+                goes = x.needs(0, 0, k, 0, false);
+            }
+            if (goes) {
+                return begin + take;
+            }
+        }
+        return Trial.NONE;
+    }
+
+    /** "at each of the seconds that it takes ... (second goes on)": as needs() tells it of each second for itself. */
+    private static void promise15EachSecond() {
+        for (String need : TURNING_NEEDS) {
+            DarkSitting asked = turning("need " + need, "need dark");
+            for (int take : new int[] {1, 2, 3, 7, 60}) {
+                for (int behind = 0; behind < 300; behind += 6) {
+                    String[] ways = new String[6];
+                    for (int way = 0; way < 6; way++) {
+                        ways[way] = "free 0;take " + take + ";need " + need + ";need second > " + (behind + way);
+                    }
+                    DarkSitting x = turning(ways);
+                    for (int way = 0; way < 6; way++) {
+                        Trial.is("promise 15: " + ways[way], firstBehind(asked, behind + way, take),
+                                x.earliest(0, 1 << way, false, 0));
+                    }
+                }
+            }
+        }
+    }
+
     /** HANDS and FEET "at least"; "the greatest reach of all WAYS that are used must have at least". */
     private static void promise15Things() {
         for (int hands = 0; hands <= 2; hands++) {
@@ -538,6 +593,7 @@ public final class SittingBoundariesTest {
         promise15End();
         promise15Seen();
         promise15Needs();
+        promise15EachSecond();
         promise15Things();
         promise15Refused();
         promise16();
